@@ -15,6 +15,8 @@ public final class FaceTest {
         Check.due("NONE", ReferenceMover.NONE, -1);
         Check.due("modifiers", face.getModifiers(), Modifier.PUBLIC | Modifier.FINAL);
         methods(face);
+        constants(face);
+        classesInside(face);
         for (Field field : face.getDeclaredFields()) {
             boolean isNone = field.getName().equals("NONE");
             Check.due(field.getName() + " is private", isPrivate(field.getModifiers()), isNone ? 0 : 1);
@@ -58,6 +60,26 @@ public final class FaceTest {
             if (Modifier.isPrivate(method.getModifiers())) {
                 Check.no(method + " has a public name", publicNames.contains(method.getName()));
             }
+        }
+    }
+
+    private static void constants(Class<?> face) {
+        StringBuilder got = new StringBuilder();
+        for (Field field : face.getFields()) {
+            got.append(Modifier.toString(field.getModifiers())).append(' ');
+            got.append(field.getType().getName()).append(' ').append(field.getName()).append(';');
+        }
+        if (!got.toString().equals("public static final int NONE;")) {
+            Check.fail("the constants are " + got);
+        }
+    }
+
+    private static void classesInside(Class<?> face) {
+        for (Class<?> inside : face.getDeclaredClasses()) {
+            int modifiers = inside.getModifiers();
+            Check.yes(inside + " is static", Modifier.isStatic(modifiers));
+            Check.no(inside + " is public", Modifier.isPublic(modifiers));
+            Check.no(inside + " is protected", Modifier.isProtected(modifiers));
         }
     }
 
